@@ -1031,48 +1031,33 @@ public final class SkyWatchers {
             while (at < size && isLetter(bytes[at])) {
                 at++;
             }
-            token = nameOf();
-            if (token == WRONG) {
-                token = keyOf();
-            }
-        }
-
-        private int nameOf() {
             if (isWord("far")) {
-                return FIRST_NAME;
+                token = FIRST_NAME;
+            } else if (isWord("minute")) {
+                token = FIRST_NAME + 1;
+            } else if (isWord("dropped")) {
+                token = FIRST_NAME + 2;
+            } else if (isWord("number")) {
+                token = FIRST_NAME + 3;
+            } else if (isWord("hung")) {
+                token = FIRST_NAME + 4;
+            } else if (isWord("kind")) {
+                token = FIRST_NAME + 5;
+            } else if (isWord("see")) {
+                token = SEE_KEY;
+            } else if (isWord("trust")) {
+                token = TRUST_KEY;
+            } else if (isWord("cost")) {
+                token = COST_KEY;
+            } else if (isWord("or")) {
+                token = OR;
+            } else if (isWord("and")) {
+                token = AND;
+            } else if (isWord("not")) {
+                token = NOT;
+            } else {
+                token = WRONG;
             }
-            if (isWord("minute")) {
-                return FIRST_NAME + 1;
-            }
-            if (isWord("dropped")) {
-                return FIRST_NAME + 2;
-            }
-            if (isWord("number")) {
-                return FIRST_NAME + 3;
-            }
-            if (isWord("hung")) {
-                return FIRST_NAME + 4;
-            }
-            return isWord("kind") ? FIRST_NAME + 5 : WRONG;
-        }
-
-        private int keyOf() {
-            if (isWord("see")) {
-                return SEE_KEY;
-            }
-            if (isWord("trust")) {
-                return TRUST_KEY;
-            }
-            if (isWord("cost")) {
-                return COST_KEY;
-            }
-            if (isWord("or")) {
-                return OR;
-            }
-            if (isWord("and")) {
-                return AND;
-            }
-            return isWord("not") ? NOT : WRONG;
         }
 
         private boolean isWord(String word) {

@@ -547,10 +547,14 @@ public final class PromisesTest {
         // of like ones the least: above, left, right and below in their order
         Due.rule(x, "see 0;trust 0;cost 9-hung;");
         due.is("rather(0)", x.rather(0), 120);
-        x.hang(0, 8);
-        due.is("rather(0): over the rim there is none", x.rather(0), NONE);
-        x.hang(0, 0);
-        due.is("rather(0)", x.rather(0), NONE);
+        for (int rim : new int[] {8, 0, 143, 248, 255}) {
+            x.hang(0, rim);
+            due.is("rather(0): over the rim, at " + rim + ", there is none", x.rather(0), NONE);
+        }
+        x.hang(0, 129);
+        due.is("rather(0)", x.rather(0), 128);
+        x.hang(0, 24);
+        due.is("rather(0)", x.rather(0), 8);
         Due.rule(x, "see 0;trust 0;cost hung;");
         x.hang(0, 0);
         due.is("rather(0): only both ways together are nearer", x.rather(0), NONE);
@@ -564,6 +568,10 @@ public final class PromisesTest {
         due.is("rather(0)", x.rather(0), 24);
         x.hang(0, 128);
         due.is("rather(0)", x.rather(0), 129);
+        SkyWatchers v = with(0, 136, 1);
+        v.dead(140, 1);
+        v.dead(132, 1);
+        due.is("rather(0): left and right are alike", v.rather(0), 135);
         // rows end: 15 and 16 lie not beside one another
         SkyWatchers y = with(0, 15, 1, 0, 16, 1);
         Due.rule(y, "see 0;trust 0;cost 0;");
@@ -790,6 +798,8 @@ public final class PromisesTest {
         due.is("watchers of sort 3", x.watchers(0, 3, 0, 1), BAD);
         due.is("watchers of -1", x.watchers(0, 1, 0, -1), BAD);
         due.is("watchers of 11", x.watchers(0, 1, 0, 11), BAD);
+        due.is("watchers of 11 of another sort", x.watchers(0, 0, 0, 11), BAD);
+        due.is("watchers of 11 of a missing one", x.watchers(1, 0, 0, 11), BAD);
         due.is("watchers of another sort", x.watchers(0, 0, -1, 1), -13);
         due.is("watchers of another sort", x.watchers(0, 2, 0, 0), -13);
         due.is("watchers of a missing one", x.watchers(1, 0, -1, 1), -11);

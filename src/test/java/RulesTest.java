@@ -111,6 +111,11 @@ public final class RulesTest {
         fault("see 1;cost 1;trust 1;", 6);
         fault("see 1;see 1;", 6);
         fault("seetrust", 0);
+        fault("seez 1;", 0);
+        fault("bee 1;", 0);
+        fault("see -x 1;", 5);
+        fault("see (x 1));", 5);
+        fault("see 1;trust 1;cost 1;5", 21);
         // the first one counts, though bytes behind are worse
         fault("see 1 1 12345 xyz", 6);
     }
