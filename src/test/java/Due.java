@@ -18,6 +18,10 @@ final class Due {
         }
     }
 
+    int asked() {
+        return asked;
+    }
+
     boolean hasWrong() {
         return wrong > 0;
     }
@@ -28,6 +32,15 @@ final class Due {
         if (wrong != 0 || asked == 0) {
             System.exit(1);
         }
+    }
+
+    /** A new object with one watcher of each (kind, square, rest). */
+    static SkyWatchers with(int... watchers) {
+        SkyWatchers x = new SkyWatchers();
+        for (int i = 0; i + 2 < watchers.length; i += 3) {
+            x.watcher(watchers[i], watchers[i + 1], watchers[i + 2]);
+        }
+        return x;
     }
 
     /** Feeds the bytes of a text (characters 0 to 255) onto THE TAPE. */

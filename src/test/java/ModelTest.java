@@ -50,7 +50,9 @@ public final class ModelTest {
         for (int i = 0; i < birds; i++) {
             watcher();
         }
-        for (int call = birds; call < 512 && !due.hasWrong(); call++) {
+        // an object is used for 512 calls at most: a rule takes up to 162, the dearest of the others 11
+        int first = due.asked() - birds;
+        while (due.asked() - first <= 500 && !due.hasWrong()) {
             int kind = pick(100);
             if (kind < 25) {
                 change();
@@ -60,9 +62,8 @@ public final class ModelTest {
                 askDear();
             } else if (kind < 80) {
                 useSheets();
-            } else if (kind < 84 && call < 480) {
+            } else if (kind < 84 && due.asked() - first < 340) {
                 writeRule();
-                call += 25;
             } else {
                 askSmall();
             }
