@@ -22,6 +22,7 @@ public final class PlainBoundsTest {
         needs();
         slow();
         aNewObject();
+        anObjectIsUsedFor512Calls();
         hideTakes0And1();
         hangTakesWatchersAndSquares();
         meatIs0To99();
@@ -304,6 +305,17 @@ public final class PlainBoundsTest {
         due.is("count(0)", x.count(0), 0);
         due.is("hide(5, 0)", x.hide(5, 0), 0);
         due.is("meat(20)", x.meat(20), 20);
+    }
+
+    private static void anObjectIsUsedFor512Calls() {
+        SkyWatchers x = new SkyWatchers();
+        for (int call = 1; call <= 508; call++) {
+            due.is("hide: call " + call, x.hide(7, call % 2), call == 1 ? 0 : 1 - call % 2);
+        }
+        due.is("watcher: call 509", x.watcher(0, 136, 1), 0);
+        due.is("dead: call 510", x.dead(140, 99), 0);
+        due.is("rest(3): call 511", x.rest(3), 1);
+        due.is("has(0, 0): call 512", x.has(0, 0), 19);
     }
 
     private static void hideTakes0And1() {
